@@ -765,11 +765,7 @@ public final class HoldWorlds {
 
         /** A bar alone, or null. */
         Rule readBar() {
-            if (text.at(place) != ':') {
-                faulty = true;
-                return null;
-            }
-            return readRule();
+            return text.at(place) == ':' ? readRule() : null;
         }
 
         private void readRange() {
@@ -874,7 +870,6 @@ public final class HoldWorlds {
         private int banned;
         private int in;
         private int doubted;
-        private int ors;
         private final Family found;
         private boolean foundIsOld;
 
@@ -887,7 +882,6 @@ public final class HoldWorlds {
             banned = 0;
             in = 0;
             doubted = 0;
-            ors = 0;
             found = new Family();
             foundIsOld = true;
         }
@@ -962,7 +956,6 @@ public final class HoldWorlds {
             int number = rules.size();
             rules.add(one);
             in = withBit(in, number, true);
-            ors = withBit(ors, number, one.kind == OR);
             foundIsOld = true;
             return number;
         }
@@ -1103,15 +1096,13 @@ public final class HoldWorlds {
         }
 
         /**
-         * Every lesser set that would do has all that is carried, so a set that is carried whole
-         * has none, and without an OR what is carried is itself such a set.
+         * Asked of a set that has all given atoms and breaks none of the live rules. Every lesser set that
+         * would do has all that is carried; and if no rule is an OR, what is carried is one that would do.
+         * So to look for a lesser set above what is carried is right with an OR and without one.
          */
-        private boolean isHeld(int set, int live, boolean withOr) {
+        private boolean isHeld(int set, int live) {
             int carried = allCarried(set, live);
-            if (carried == set) {
-                return true;
-            }
-            return withOr && !hasLesser(set, live, carried);
+            return carried == set || !hasLesser(set, live, carried);
         }
 
         private boolean hasLesser(int set, int live, int carried) {
@@ -1140,7 +1131,7 @@ public final class HoldWorlds {
             if (!fitsTold(set) || firstBroken(set) != NONE) {
                 return false;
             }
-            return isHeld(set, liveRules(set), (in & ors) != 0);
+            return isHeld(set, liveRules(set));
         }
 
         /** The worlds are sought once and kept till something changes that they hang on. */
@@ -1214,7 +1205,7 @@ public final class HoldWorlds {
             int out = 0;
             for (int bits = 0; bits < ways; bits++) {
                 boolean mends = isFewer(bits, best) && (broken & ~out) == 0;
-                if (mends && isHeld(set, live & ~out, (in & ~out & ors) != 0)) {
+                if (mends && isHeld(set, live & ~out)) {
                     best = bits;
                 }
                 out = partBehind(out, all);
