@@ -582,7 +582,7 @@ public final class HoldWorlds {
             int sum = 0;
             for (int i = 0; i < letters.length; i++) {
                 int atom = letters[i];
-                if (atom >= 0 && atom < weights.length && hasBit(set, atom)) {
+                if (atom >= 0 && atom < weights.length && (set & 1 << atom) != 0) {
                     sum += weights[atom];
                 }
             }
@@ -1184,7 +1184,7 @@ public final class HoldWorlds {
 
         int fewestOut() {
             int best = NONE;
-            for (int x = 0; x < setCount(); x++) {
+            for (int x = 0; x < setCount() && best != 0; x++) {
                 if (fitsTold(x)) {
                     best = fewestOutFor(x, best);
                 }

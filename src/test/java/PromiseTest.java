@@ -483,6 +483,12 @@ public final class PromiseTest {
         }
         due("21 a higher rank is more than all below", x.best(0), 1);
         due("20 nineteen", x.cost(1, 0), 1881);
+        for (int rank = 0; rank <= 3; rank++) {
+            HoldWorlds one = of("{a}");
+            wish(one, ":!a", rank, 1);
+            due("21 rank " + rank + " alone", one.best(0), 1);
+            due("21 rank " + rank + " alone, even", one.best(1), 1);
+        }
     }
 
     private static void bounds() {
