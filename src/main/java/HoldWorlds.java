@@ -1193,14 +1193,14 @@ public final class HoldWorlds {
         }
 
         /** The best of what was found and what makes this set a world. */
-        private int fewestOutFor(int set, int sofar) {
+        private int fewestOutFor(int set, int soFar) {
             int all = in & doubted;
             int live = liveRules(set);
             int broken = brokenOf(set, live);
             if ((broken & ~all) != 0) {
-                return sofar;
+                return soFar;
             }
-            int best = sofar;
+            int best = soFar;
             int ways = 1 << Integer.bitCount(all);
             int out = 0;
             for (int bits = 0; bits < ways; bits++) {
