@@ -33,14 +33,7 @@ public final class PromiseTest {
     }
 
     private static HoldWorlds of(String... texts) {
-        HoldWorlds x = new HoldWorlds();
-        for (String text : texts) {
-            if (rule(x, text) < 0) {
-                wrong++;
-                System.out.println("no rule: " + text);
-            }
-        }
-        return x;
+        return ofAtoms(4, texts);
     }
 
     private static HoldWorlds ofAtoms(int atoms, String... texts) {
