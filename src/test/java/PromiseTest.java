@@ -1,61 +1,8 @@
 import java.util.function.IntSupplier;
 
 /** For each promise of the document runs with the answers that it asks for, worked out by hand. */
-public final class PromiseTest {
-    private static int wrong = 0;
-
-    private static void due(String what, int got, int want) {
-        if (got != want) {
-            wrong++;
-            System.out.println(what + ": answered " + got + ", due is " + want);
-        }
-    }
-
-    private static void feed(HoldWorlds x, String text) {
-        for (int from = 0; from < text.length(); from += 8) {
-            int n = Math.min(8, text.length() - from);
-            long bytes = 0;
-            for (int i = 0; i < n; i++) {
-                bytes |= (long) (text.charAt(from + i) & 255) << (8 * i);
-            }
-            x.feed(n, bytes);
-        }
-    }
-
-    private static int rule(HoldWorlds x, String text) {
-        feed(x, text);
-        return x.rule();
-    }
-
-    private static int wish(HoldWorlds x, String text, int rank, int cost) {
-        feed(x, text);
-        return x.wish(rank, cost);
-    }
-
-    private static HoldWorlds of(String... texts) {
-        return ofAtoms(4, texts);
-    }
-
-    private static HoldWorlds ofAtoms(int atoms, String... texts) {
-        HoldWorlds x = new HoldWorlds();
-        x.atoms(atoms);
-        for (String text : texts) {
-            if (rule(x, text) < 0) {
-                wrong++;
-                System.out.println("no rule: " + text);
-            }
-        }
-        return x;
-    }
-
-    private static int judged(HoldWorlds x, int... row) {
-        for (int v : row) {
-            x.line(v);
-        }
-        return x.judge();
-    }
-
-    private static void newObject() {
+public final class PromiseTest extends Told {
+    static void newObject() {
         HoldWorlds x = new HoldWorlds();
         due("1 atoms", x.count(0), 4);
         for (int what = 1; what <= 8; what++) {
@@ -69,7 +16,7 @@ public final class PromiseTest {
         due("1 rules still", x.count(1), 0);
     }
 
-    private static void atoms() {
+    static void atoms() {
         HoldWorlds x = new HoldWorlds();
         due("2 least", x.atoms(1), 4);
         due("2 greatest", x.atoms(10), 1);
@@ -96,7 +43,7 @@ public final class PromiseTest {
         due("2 nothing changed", z.count(0), 4);
     }
 
-    private static void weight() {
+    static void weight() {
         HoldWorlds x = new HoldWorlds();
         due("3 first", x.weight(3, 99), 1);
         due("3 then", x.weight(3, 0), 99);
@@ -117,7 +64,7 @@ public final class PromiseTest {
         due("3 worlds again", y.sure(0), 2);
     }
 
-    private static void tape() {
+    static void tape() {
         HoldWorlds x = new HoldWorlds();
         due("4 one", x.feed(1, 0xffffff61L), 1);
         due("4 lowest alone came", x.rule(), 0);
@@ -146,7 +93,7 @@ public final class PromiseTest {
         due("5 no tape " + text, x.count(5), 0);
     }
 
-    private static void faults() {
+    static void faults() {
         fault("", 0);
         fault("A", 0);
         fault("!a", 0);
@@ -194,7 +141,7 @@ public final class PromiseTest {
         fault("a\u0000", 1);
     }
 
-    private static void rules() {
+    static void rules() {
         HoldWorlds x = of("a", "a|b|c|d", "{a,b,c,d,a,b}0-9:[a+b+c+d+a+b<999]", "{a}3-1", "a:b,b,b,b,b,b,b,b",
                 "a:[b<007],!c,d", "{a}9-0", "{a,b}:c");
         due("5 how many", x.count(1), 8);
@@ -215,7 +162,7 @@ public final class PromiseTest {
         due("5 and asked", y.ruleOf(29, 4), 0);
     }
 
-    private static void wishes() {
+    static void wishes() {
         HoldWorlds x = new HoldWorlds();
         due("6 first", wish(x, ":a", 0, 1), 0);
         due("6 second", wish(x, ":!a,[b+c<3]", 3, 99), 1);
@@ -243,7 +190,7 @@ public final class PromiseTest {
         due("6 the tape stays", x.count(5), 1);
     }
 
-    private static void put() {
+    static void put() {
         HoldWorlds x = of("a", "b:a");
         due("7 is so", x.put(0, true), 0);
         due("7 out", x.put(0, false), 1);
@@ -257,7 +204,7 @@ public final class PromiseTest {
         due("7 worlds without it", x.next(-1), 1);
     }
 
-    private static void givenAndBanned() {
+    static void givenAndBanned() {
         HoldWorlds x = of("b:a");
         due("8 is so", x.given(0, false), 0);
         due("8 given", x.given(0, true), 1);
@@ -281,7 +228,7 @@ public final class PromiseTest {
         due("9 bits", x.count(8), 2);
     }
 
-    private static void ruleOf() {
+    static void ruleOf() {
         HoldWorlds x = of("a:b,!c,[d<2]", "a|b|a", "{a,d}", ":!a,!d,b");
         int[][] want = {{1, 1, 2, 4, 1}, {2, 3, 0, 0, 1}, {3, 9, 0, 0, 1}, {4, 0, 2, 9, 1}};
         for (int r = 0; r < 4; r++) {
@@ -295,7 +242,7 @@ public final class PromiseTest {
         due("10 none", x.ruleOf(-1, 0), -1);
     }
 
-    private static void holds() {
+    static void holds() {
         HoldWorlds x = of("a:b,!c,[a+d+a<3]", "a", ":[a<0]");
         due("11 so", x.holds(0, 2), 1);
         due("11 lacks", x.holds(0, 0), 0);
@@ -312,7 +259,7 @@ public final class PromiseTest {
         due("11 no set", x.holds(0, -1), -1);
     }
 
-    private static void broken() {
+    static void broken() {
         HoldWorlds x = of("a:b", "c|d:a", "{a,a,b}2-2", ":c,d");
         due("12 an atom", x.broken(2), 0);
         due("12 or", x.broken(1), 1);
@@ -331,7 +278,7 @@ public final class PromiseTest {
         due("12 without a range", of("{a,b}").broken(0), -9);
     }
 
-    private static void stepsAndUnheld() {
+    static void stepsAndUnheld() {
         HoldWorlds x = of("a", "b:a", "c:b,a", "{c,d}:c", "a|d:b");
         due("13 first", x.step(15, 0), 1);
         due("13 second", x.step(15, 1), 2);
@@ -360,7 +307,7 @@ public final class PromiseTest {
         due("14 the longest", chain.unheld(1023), 0);
     }
 
-    private static void world() {
+    static void world() {
         HoldWorlds loop = of("a:b", "b:a");
         due("15 nothing holds itself up", loop.world(3), 0);
         due("15 the empty one", loop.world(0), 1);
@@ -396,7 +343,7 @@ public final class PromiseTest {
         due("15 no set", told.world(-1), -1);
     }
 
-    private static void worldsInOrder() {
+    static void worldsInOrder() {
         HoldWorlds x = of("{b,d}");
         due("16 first", x.next(-1), 0);
         due("16 above", x.next(0), 2);
@@ -415,7 +362,7 @@ public final class PromiseTest {
         due("16 none", of("a:!a").next(-1), -9);
     }
 
-    private static void sureAndShown() {
+    static void sureAndShown() {
         HoldWorlds x = of("a", "{b,c}1-1", "d:b");
         due("18 sure", x.sure(0), 1);
         due("18 some", x.sure(1), 15);
@@ -434,7 +381,7 @@ public final class PromiseTest {
         due("19 no atom of it", ofAtoms(5, "{a,b,c,d,e}2-3").shown(3), 4);
     }
 
-    private static void costs() {
+    static void costs() {
         HoldWorlds x = of("{a,b}");
         wish(x, ":a", 0, 9);
         wish(x, ":!a", 1, 2);
@@ -469,7 +416,7 @@ public final class PromiseTest {
         due("22 none", y.even(1), -3);
     }
 
-    private static void allWishesAtOnce() {
+    static void allWishesAtOnce() {
         HoldWorlds x = of("{a}");
         for (int i = 0; i < 20; i++) {
             wish(x, i < 1 ? ":!a" : ":a", i < 1 ? 1 : 0, 99);
@@ -484,7 +431,7 @@ public final class PromiseTest {
         }
     }
 
-    private static void bounds() {
+    static void bounds() {
         HoldWorlds x = of("a", "b:a,!c", "c:d", "{d}");
         due("23 below", x.bound(0), 1);
         due("23 above", x.bound(1), 15);
@@ -510,7 +457,7 @@ public final class PromiseTest {
         due("23 undecided", even.bound(1), 7);
     }
 
-    private static void whys() {
+    static void whys() {
         HoldWorlds x = of("c:b", "a:c", "a", "b:a", "{b,d}:a", "a|d:!b");
         due("24 the step's first", x.why(15, 0), 2);
         due("24 of several", x.why(15, 1), 3);
@@ -542,7 +489,7 @@ public final class PromiseTest {
         due("25 the last part", z.whyNot(2, 0), 7);
     }
 
-    private static void doubts() {
+    static void doubts() {
         HoldWorlds x = of("a", ":a", "b", ":b", "c", ":c", "d", ":d");
         due("26 is so", x.doubt(0, false), 0);
         due("26 no rule", x.doubt(8, true), -1);
@@ -582,7 +529,7 @@ public final class PromiseTest {
         due("27 or goes", or.amends(), 0b001);
     }
 
-    private static void images() {
+    static void images() {
         HoldWorlds x = of("{a,b}");
         due("29 no image", x.compared(0), -3);
         due("29 what first", x.compared(2), -2);
@@ -610,7 +557,7 @@ public final class PromiseTest {
         due("29 the empty one is new", y.compared(0), 0);
     }
 
-    private static void lines() {
+    static void lines() {
         HoldWorlds x = of("a", "b:a", "c|d:b", ":d,!a");
         due("30 least", x.line(-128), 1);
         due("30 greatest", x.line(127), 2);
@@ -646,7 +593,7 @@ public final class PromiseTest {
         due("31 the set is of the whole row", judged(y, 0, 1), 0);
     }
 
-    private static void counts() {
+    static void counts() {
         HoldWorlds x = of("a", "b", "c");
         x.put(1, false);
         x.doubt(0, true);
@@ -689,7 +636,7 @@ public final class PromiseTest {
         }
     }
 
-    private static void refusals() {
+    static void refusals() {
         HoldWorlds x = of("a");
         x.given(0, true);
         x.banned(1, true);
@@ -736,7 +683,7 @@ public final class PromiseTest {
         refused("rule, which is a fault", x, -20, () -> x.rule());
     }
 
-    private static void refusalsForRoom() {
+    static void refusalsForRoom() {
         HoldWorlds x = new HoldWorlds();
         for (int i = 0; i < 30; i++) {
             rule(x, "a");
@@ -748,36 +695,7 @@ public final class PromiseTest {
         refused("doubt", x, -6, () -> x.doubt(0, true));
     }
 
-    public static void main(String[] args) {
-        refusals();
-        refusalsForRoom();
-        newObject();
-        atoms();
-        weight();
-        tape();
-        faults();
-        rules();
-        wishes();
-        put();
-        givenAndBanned();
-        ruleOf();
-        holds();
-        broken();
-        stepsAndUnheld();
-        world();
-        worldsInOrder();
-        sureAndShown();
-        costs();
-        allWishesAtOnce();
-        bounds();
-        whys();
-        doubts();
-        images();
-        lines();
-        counts();
-        System.out.println(wrong == 0 ? "all promises hold" : wrong + " answers are not as due");
-        if (wrong != 0) {
-            System.exit(1);
-        }
+    public static void main(String[] args) throws ReflectiveOperationException {
+        runAll(PromiseTest.class);
     }
 }
