@@ -168,18 +168,19 @@ public final class HoldWorlds {
     }
 
     public int ruleOf(int rule, int what) {
-        if (!theory.isRule(rule)) {
+        Rule asked = theory.ruleAt(rule);
+        if (asked == null) {
             return refuse(NOBODY);
         }
         switch (what) {
             case 0:
-                return theory.ruleAt(rule).kind;
+                return asked.kind;
             case 1:
-                return theory.ruleAt(rule).headBits;
+                return asked.headBits;
             case 2:
-                return theory.ruleAt(rule).body.needBits;
+                return asked.body.needBits;
             case 3:
-                return theory.ruleAt(rule).body.notBits;
+                return asked.body.notBits;
             case 4:
                 return hasBit(theory.inBits(), rule) ? 1 : 0;
             default:
@@ -188,10 +189,11 @@ public final class HoldWorlds {
     }
 
     public int holds(int rule, int set) {
-        if (!theory.isRule(rule) || !theory.isSet(set)) {
+        Rule asked = theory.ruleAt(rule);
+        if (asked == null || !theory.isSet(set)) {
             return refuse(NOBODY);
         }
-        return theory.bodyHolds(theory.ruleAt(rule).body, set) ? 1 : 0;
+        return theory.bodyHolds(asked.body, set) ? 1 : 0;
     }
 
     public int broken(int set) {
@@ -926,9 +928,9 @@ public final class HoldWorlds {
             return set >= 0 && set < 1 << atomCount;
         }
 
-        /** Asked with a number that isRule. */
+        /** The rule of a number, or null if there is none. */
         Rule ruleAt(int number) {
-            return rules.get(number);
+            return isRule(number) ? rules.get(number) : null;
         }
 
         boolean isToldBeyond(int n) {

@@ -1022,6 +1022,23 @@ public final class PromiseEdgeTest extends Told {
         due("all sure", x.sure(0), 1023);
     }
 
+    static void p18TheEmptyWorldAlone() {
+        due("sure", fresh().sure(0), 0);
+        due("some", fresh().sure(1), 0);
+    }
+
+    static void p18TheEmptyWorldAmongOthers() {
+        HoldWorlds x = of("{b}");
+        due("sure", x.sure(0), 0);
+        due("some", x.sure(1), 2);
+    }
+
+    static void p18TheFullWorldAlone() {
+        HoldWorlds x = ofAtoms(10, "{a,b,c,d,e,f}6-6", "{g,h,i,j}4-4");
+        due("sure", x.sure(0), 1023);
+        due("some", x.sure(1), 1023);
+    }
+
     // Promise 19
 
     static void p19NoSuchSetIsRefused() {
