@@ -4,21 +4,14 @@ import java.lang.reflect.Method;
 import java.lang.reflect.Modifier;
 import java.nio.file.Files;
 import java.nio.file.Path;
-import java.util.Arrays;
 import java.util.Set;
 import java.util.TreeSet;
 import java.util.regex.Matcher;
 import java.util.regex.Pattern;
 
-/** The public face as the document tells it, and those rules of the language that can be seen from outside. */
+/** The public face as the document's own code block tells it, and those rules of the language that can be seen from outside. */
 public final class FaceTest {
-    private static final String[] FACE = {
-        "atoms int", "weight int int", "feed int long", "rule", "wish int int", "put int boolean", "given int boolean",
-        "banned int boolean", "ruleOf int int", "holds int int", "broken int", "step int int", "unheld int",
-        "world int", "next int", "worlds", "sure int", "shown int", "cost int int", "best int", "even int",
-        "bound int", "why int int", "whyNot int int", "doubt int boolean", "amends", "image", "compared int",
-        "line int", "judge", "count int",
-    };
+    private static final Path DOCUMENT = Path.of("../shared/DOC.md");
 
     private static int wrong = 0;
 
@@ -29,6 +22,18 @@ public final class FaceTest {
         }
     }
 
+    /** The methods of the document's code block, a name and its types each. */
+    private static Set<String> toldByTheDocument(String document) {
+        Set<String> all = new TreeSet<>();
+        Matcher block = Pattern.compile("```java\n(.*?)```", Pattern.DOTALL).matcher(document);
+        Matcher method = Pattern.compile("public int (\\w+)\\((.*?)\\);").matcher(block.find() ? block.group(1) : "");
+        while (method.find()) {
+            all.add((method.group(1) + " " + method.group(2).replaceAll("(\\w+) \\w+,? ?", "$1 ")).trim());
+        }
+        must("31 methods are told: " + all, all.size() == 31);
+        return all;
+    }
+
     private static String told(Method method) {
         StringBuilder text = new StringBuilder(method.getName());
         for (Class<?> type : method.getParameterTypes()) {
@@ -37,7 +42,7 @@ public final class FaceTest {
         return text.toString();
     }
 
-    private static void face(Class<?> face) {
+    private static void face(Class<?> face, Set<String> told) {
         must("public and final", Modifier.isPublic(face.getModifiers()) && Modifier.isFinal(face.getModifiers()));
         Set<String> found = new TreeSet<>();
         Set<String> names = new TreeSet<>();
@@ -49,7 +54,7 @@ public final class FaceTest {
                 must(method + " is of the object", !Modifier.isStatic(method.getModifiers()));
             }
         }
-        must("the methods of the document: " + found, found.equals(new TreeSet<>(Arrays.asList(FACE))));
+        must("the methods of the document: " + found, found.equals(told));
         Constructor<?>[] made = face.getDeclaredConstructors();
         must("one public constructor", made.length == 1 && Modifier.isPublic(made[0].getModifiers())
                 && made[0].getParameterCount() == 0);
@@ -99,7 +104,7 @@ public final class FaceTest {
 
     public static void main(String[] args) throws Exception {
         Class<?> face = HoldWorlds.class;
-        face(face);
+        face(face, toldByTheDocument(Files.readString(DOCUMENT)));
         inside(face);
         must("at most twelve classes", face.getDeclaredClasses().length < 12);
         for (Class<?> one : face.getDeclaredClasses()) {

@@ -903,8 +903,8 @@ public final class PlainModelTest {
         long first = args.length > 1 ? Long.parseLong(args[1]) : 1L;
         int wrong = 0;
         for (int i = 0; i < runs && wrong < 3; i++) {
-            int atoms = i % 40 == 39 ? 8 : 1 + i % 6;
-            wrong += new Run(first + i).play(atoms, atoms == 8 ? 60 : 200);
+            int atoms = i % 40 == 39 ? 8 + i / 40 % 3 : 1 + i % 6;
+            wrong += new Run(first + i).play(atoms, atoms >= 8 ? 60 : 200);
         }
         System.out.println(wrong == 0 ? runs + " runs are answered as by the model" : wrong + " runs differ");
         if (wrong != 0) {
